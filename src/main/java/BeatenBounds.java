@@ -272,10 +272,9 @@ public final class BeatenBounds {
             return NONE;
         }
         int slot = WAYS * parish + way;
-        boolean wet = years.wetAsItGoes();
         later.become(now);
         for (int size = 0; size <= 9; size++) {
-            later.far[slot] = years.walked(now, child, slot, size, wet);
+            later.far[slot] = years.walkedFar(now, child, slot, size);
             if (later.holds(parish, row, column)) {
                 return size;
             }
@@ -402,7 +401,7 @@ public final class BeatenBounds {
         if (!isChild(child) || !isParish(parish) || what < 0 || what > 1) {
             return NONE;
         }
-        guess.seekCell(child, parish);
+        guess.seekCell(child, parish, guess.legsLeft(child));
         return what == 0 ? guess.askedCell : guess.leftAtWorst;
     }
 
@@ -517,7 +516,7 @@ public final class BeatenBounds {
 
     /** Cuts the tape's bytes into tokens, and holds the first fault that was found. */
     private static final class Tokens {
-        // Tokens 0 .. 20 are the words of the language, in the order of WORDS.
+        // Tokens 0 .. 20 are the words of the language, in the order of LINE_WORDS, then of LAW_WORDS.
         static final int LAND = 0;
         static final int PARISH = 1;
         static final int CHILD = 2;
@@ -553,12 +552,14 @@ public final class BeatenBounds {
 
         static final int LETTERS = 6;
         static final int LANGUAGE_WORDS = 21;
-        static final String WORDS = "land  parishchild beat  cake  rain  seed  law   walk  quarl grow  "
-            + "or    and   not   legs  mood  tired sweet wet   far   year  ";
+        static final int FIRST_LAW_WORD = OR;
+        static final String LINE_WORDS = "land  parishchild beat  cake  rain  seed  law   walk  quarl grow  ";
+        static final String LAW_WORDS = "or    and   not   legs  mood  tired sweet wet   far   year  ";
         // Far above each number that the language allows, so that more digits needn't be added up.
         static final int HUGE = 1000000;
 
         final byte[] bytes;
+        final int[] words;
         int length;
         int at;
         int kind;
@@ -569,6 +570,11 @@ public final class BeatenBounds {
 
         Tokens(byte[] bytes) {
             this.bytes = bytes;
+            words = new int[LANGUAGE_WORDS];
+            for (int word = 0; word < LANGUAGE_WORDS; word++) {
+                boolean ofLaws = word >= FIRST_LAW_WORD;
+                words[word] = packedWord(ofLaws ? LAW_WORDS : LINE_WORDS, ofLaws ? word - FIRST_LAW_WORD : word);
+            }
             faultPlace = NONE;
         }
 
@@ -581,7 +587,9 @@ public final class BeatenBounds {
         }
 
         boolean fail(int which) {
-            return failAt(which, place);
+            fault = which;
+            faultPlace = place;
+            return false;
         }
 
         boolean failAt(int which, int where) {
@@ -634,7 +642,7 @@ public final class BeatenBounds {
                 return WRONG;
             }
             for (int word = 0; word < LANGUAGE_WORDS; word++) {
-                if (packedWord(word) == value) {
+                if (words[word] == value) {
                     return word;
                 }
             }
@@ -645,10 +653,10 @@ public final class BeatenBounds {
             return letter - 'a' + 1 << 5 * (LETTERS - 1 - position);
         }
 
-        static int packedWord(int word) {
+        static int packedWord(String words, int word) {
             int letters = 0;
-            for (int k = 0; k < LETTERS && LETTERS * word + k < WORDS.length(); k++) {
-                char letter = WORDS.charAt(LETTERS * word + k);
+            for (int k = 0; k < LETTERS && LETTERS * word + k < words.length(); k++) {
+                char letter = words.charAt(LETTERS * word + k);
                 if (letter != ' ') {
                     letters |= packed(letter, k);
                 }
@@ -759,13 +767,15 @@ public final class BeatenBounds {
                     stack[top] = knot >= 0 ? knot : names[token - Tokens.FIRST_NAME];
                     top++;
                 } else if (token == Tokens.NOT && top >= 1) {
-                    stack[top - 1] = truth(stack[top - 1] == 0);
+                    stack[top - 1] = stack[top - 1] == 0 ? 1 : 0;
                 } else if (top >= 2) {
                     top--;
-                    stack[top - 1] = joined(token, stack[top - 1], stack[top]);
-                    if (stack[top - 1] == ERROR) {
+                    long value = joined(token, stack[top - 1], stack[top]);
+                    // ERROR itself lies below the limit, too.
+                    if (value > LIMIT || value < -LIMIT) {
                         return ERROR;
                     }
+                    stack[top - 1] = value;
                 } else {
                     return ERROR;
                 }
@@ -777,51 +787,37 @@ public final class BeatenBounds {
             return token >= Tokens.FIRST_NAME && token <= Tokens.LAST_NAME;
         }
 
-        static long truth(boolean is) {
-            return is ? 1 : 0;
-        }
-
         static long joined(int token, long a, long b) {
             switch (token) {
                 case Tokens.OR:
-                    return truth(a != 0 || b != 0);
+                    return a != 0 || b != 0 ? 1 : 0;
                 case Tokens.AND:
-                    return truth(a != 0 && b != 0);
+                    return a != 0 && b != 0 ? 1 : 0;
                 case Tokens.LESS:
-                    return truth(a < b);
+                    return a < b ? 1 : 0;
                 case Tokens.NOT_ABOVE:
-                    return truth(a <= b);
+                    return a <= b ? 1 : 0;
                 case Tokens.EQUAL:
-                    return truth(a == b);
+                    return a == b ? 1 : 0;
                 case Tokens.UNLIKE:
-                    return truth(a != b);
+                    return a != b ? 1 : 0;
                 case Tokens.NOT_BELOW:
-                    return truth(a >= b);
+                    return a >= b ? 1 : 0;
                 case Tokens.ABOVE:
-                    return truth(a > b);
+                    return a > b ? 1 : 0;
                 case Tokens.PLUS:
-                    return bounded(a + b);
+                    return a + b;
                 case Tokens.MINUS:
-                    return bounded(a - b);
+                    return a - b;
                 case Tokens.TIMES:
-                    return product(a, b);
+                    // Looked at ahead: the product of two values may not fit a long.
+                    long most = a == 0 ? LIMIT : LIMIT / (a < 0 ? -a : a);
+                    return b > most || b < -most ? ERROR : a * b;
                 case Tokens.BY:
                     return b == 0 ? ERROR : a / b;
                 default:
                     return ERROR;
             }
-        }
-
-        static long bounded(long value) {
-            return value > LIMIT || value < -LIMIT ? ERROR : value;
-        }
-
-        static long product(long a, long b) {
-            // Looked at ahead: the product of two values may not fit a long.
-            if (a != 0 && Math.abs(b) > LIMIT / Math.abs(a)) {
-                return ERROR;
-            }
-            return a * b;
         }
     }
 
@@ -933,7 +929,7 @@ public final class BeatenBounds {
         /** An open bracket has rank 0, and so holds back what waits ahead of it. */
         void settle(Laws laws, int leastRank) {
             int least = Math.max(leastRank, 1);
-            while (waits > 0 && topRank() >= least) {
+            while (waits > 0 && waits <= waiting.length && rank(waiting[waits - 1]) >= least) {
                 waits--;
                 laws.put(-waiting[waits]);
             }
@@ -1590,22 +1586,26 @@ public final class BeatenBounds {
         }
 
         void lead(Land land, int child, int slot, boolean wet) {
-            land.far[slot] = walked(land, child, slot, land.cake[slot], wet);
+            int sweet = land.cake[slot];
+            long law = walk(land, child, slot, sweet, wet);
+            land.far[slot] = stoneFar(law, land.legs[child] + sweet - land.tired[child], slot, wet);
             if (!land.tireless) {
                 land.tired[child] = Math.min(land.tired[child] + 1, 99);
             }
         }
 
-        int walked(Land land, int child, int slot, int sweet, boolean wet) {
-            long told = walk(land, child, slot, sweet, wet);
-            int far;
-            if (told == ERROR) {
-                far = Math.max(land.legs[child] + sweet - land.tired[child], 0);
-                far = wet ? far / 2 : far;
-            } else {
-                far = within(told, 0, 99);
-            }
-            return Math.min(far, this.told.edge(slot / WAYS, slot % WAYS));
+        /** How far one comes by what the law answered, or without it by one's strength. */
+        int stoneFar(long law, int strength, int slot, boolean wet) {
+            int unbound = wet ? Math.max(strength, 0) / 2 : Math.max(strength, 0);
+            int far = law == ERROR ? unbound : within(law, 0, 99);
+            return Math.min(far, told.edge(slot / WAYS, slot % WAYS));
+        }
+
+        /** How far one would come now with a cake of such a size. */
+        int walkedFar(Land land, int child, int slot, int sweet) {
+            boolean wet = wetAsItGoes();
+            long law = walk(land, child, slot, sweet, wet);
+            return stoneFar(law, land.legs[child] + sweet - land.tired[child], slot, wet);
         }
 
         void quarrelAll(Land land, boolean wet) {
@@ -1860,8 +1860,7 @@ public final class BeatenBounds {
             return bits;
         }
 
-        void seekCell(int child, int parish) {
-            int bits = legsLeft(child);
+        void seekCell(int child, int parish, int bits) {
             Arrays.fill(inRow, 0);
             Arrays.fill(inColumn, 0);
             for (int k = 0; k < MOST_LEGS; k++) {
@@ -1937,12 +1936,11 @@ public final class BeatenBounds {
         }
 
         void walkAll(Land land, int parish) {
-            boolean wet = years.wetAsItGoes();
             for (int way = 0; way < WAYS; way++) {
                 int slot = WAYS * parish + way;
                 int first = (MAX_CHILDREN + 1) * way;
                 for (int child = 0; child < told.children; child++) {
-                    fars[first + child] = years.walked(land, child, slot, land.cake[slot], wet);
+                    fars[first + child] = years.walkedFar(land, child, slot, land.cake[slot]);
                 }
                 fars[first + told.children] = land.far[slot];
             }
