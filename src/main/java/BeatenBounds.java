@@ -286,11 +286,11 @@ public final class BeatenBounds {
         if (!isPair(one, other) || what < 0 || what > 2) {
             return NONE;
         }
-        int rows = now.sharedRows(one, other);
-        int columns = now.sharedColumns(one, other);
-        if (rows * columns < 2) {
+        if (now.shared(one, other) < 2) {
             return NOT_SO;
         }
+        int rows = now.commonRows(one, other);
+        int columns = now.commonColumns(one, other);
         // The first line that differs least has half of them, rounded down, ahead of it.
         int byRows = rows < 2 ? Integer.MAX_VALUE : rows % 2 * columns;
         int byColumns = columns < 2 ? Integer.MAX_VALUE : columns % 2 * rows;
@@ -675,6 +675,7 @@ public final class BeatenBounds {
         }
 
         int signKind(int first) {
+            int second = byteAt(at);
             switch (first) {
                 case ';':
                     return SEMICOLON;
@@ -693,20 +694,20 @@ public final class BeatenBounds {
                 case '=':
                     return EQUAL;
                 case '<':
-                    return follows('=') ? NOT_ABOVE : follows('>') ? UNLIKE : LESS;
+                    if (second != '=' && second != '>') {
+                        return LESS;
+                    }
+                    at++;
+                    return second == '=' ? NOT_ABOVE : UNLIKE;
                 case '>':
-                    return follows('=') ? NOT_BELOW : ABOVE;
+                    if (second != '=') {
+                        return ABOVE;
+                    }
+                    at++;
+                    return NOT_BELOW;
                 default:
                     return WRONG;
             }
-        }
-
-        boolean follows(int sign) {
-            if (byteAt(at) != sign) {
-                return false;
-            }
-            at++;
-            return true;
         }
     }
 
@@ -893,7 +894,7 @@ public final class BeatenBounds {
                 return true;
             }
             int rank = rank(kind);
-            if (rank == 0) {
+            if (rank == 0 || kind == Tokens.NOT) {
                 return tokens.fail(1);
             }
             settle(laws, rank == RANK_COMPARED ? rank + 1 : rank);
@@ -1417,16 +1418,8 @@ public final class BeatenBounds {
             return Math.min(right(one), right(other)) - Math.max(left(one), left(other)) + 1;
         }
 
-        int sharedRows(int one, int other) {
-            return Math.max(commonRows(one, other), 0);
-        }
-
-        int sharedColumns(int one, int other) {
-            return Math.max(commonColumns(one, other), 0);
-        }
-
         int shared(int one, int other) {
-            return sharedRows(one, other) * sharedColumns(one, other);
+            return Math.max(commonRows(one, other), 0) * Math.max(commonColumns(one, other), 0);
         }
 
         boolean touch(int one, int other) {
@@ -1780,9 +1773,8 @@ public final class BeatenBounds {
         /** From the last one on: whether an entry counts hangs on later ones alone. */
         void settle() {
             int known = knownEntries();
-            Arrays.fill(counts, false);
-            for (int k = 0; k < known; k++) {
-                counts[k] = true;
+            for (int k = 0; k < MOST; k++) {
+                counts[k] = k < known;
             }
             for (int k = known - 1; k >= 0; k--) {
                 if (counts[k] && strikes[k] != NONE) {
