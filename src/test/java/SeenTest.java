@@ -139,6 +139,16 @@ public final class SeenTest {
         Due.is("half", late.ask(1, 1, 1), 15);
         Due.is("c tells nothing", late.ask(0, 1, 0), 0);
         Due.is("all are left", late.ask(0, 1, 1), 30);
+        Due.is("then of p: by c, till d is led", late.ask(0, 0, 0), 0);
+        Due.is("d of p", late.ask(1, 0, 0), 2016);
+        Due.is("d of q again", late.ask(1, 1, 0), 1600);
+        // What was asked ahead leaves nothing: column 1 of q is nobody's.
+        BeatenBounds two = Texts.of("land 40;parish p 0 0;parish q 1 0;child c 4 0;beat p c 1 0;beat q c 2 1;");
+        two.ask(0, 0, 0);
+        Due.is("another parish", two.ask(0, 1, 0), 1700);
+        two.see(1, 0, 0, 2, true);
+        two.see(1, 1, 2, 0, false);
+        Due.is("led later", two.legsOf(0), ALL - 1);
     }
 
     private static void counts() {

@@ -86,6 +86,19 @@ public final class TextTest {
         Due.is("no image behind a text", x.back(), -1);
         Due.is("nothing to undo behind a text", x.undo(), -1);
         Due.is("dry behind a text", x.dry(1, 0), 1);
+        String again = "land 7;parish p 1 1;child c 3 0;cake p 1 4;law grow 1;";
+        Texts.tell(x, again);
+        x.carry(0, 1, 2);
+        x.beat(0, 0, 2);
+        x.bake(0, 1, 8);
+        Due.is("the same text again", Texts.tell(x, again), 5);
+        Due.is("all FAR 0", x.parish(0, 6), 1);
+        Due.is("nobody TIRED", x.child(0, 2), 0);
+        Due.is("the cake as told", x.cake(0, 1), 4);
+        x.go(5);
+        Texts.tell(x, again);
+        Due.is("legs as told", x.child(0, 0), 3);
+        Due.is("year 0", x.count(5), 0);
     }
 
     private static void lines() {
@@ -233,6 +246,8 @@ public final class TextTest {
         Due.faulty("law walk ann;", 1, 9);
         Due.faulty("law walk land;", 1, 9);
         Due.faulty("law wet 1;", 1, 4);
+        Due.faulty("law or 1;", 1, 4);
+        Due.faulty("law law 1;", 1, 4);
         Due.faulty("law 1;", 1, 4);
         Due.faulty("law", 1, 3);
     }

@@ -101,10 +101,16 @@ public final class YearsTest {
         for (int year = 400; year <= 9800; year += 200) {
             Due.is("go", x.go(year - x.count(5)), year);
         }
+        x.keep();
         Due.is("from 9800 on", x.go(200), 10000);
         Due.is("behind 9800", x.go(1), -1);
-        Due.is("behind 9800, none", x.go(0), -1);
         Due.is("none does", x.count(5), 10000);
+        x.back();
+        Due.is("in 9800", x.go(0), 9800);
+        Due.is("in 9800", x.go(1), 9801);
+        Due.is("behind 9800, none", x.go(0), -1);
+        Due.is("behind 9800", x.go(1), -1);
+        Due.is("asked all the same", x.ahead(200, 0, 0), 5 * 11);
         BeatenBounds order = Texts.of("parish p 0 0;child c 3 0;beat p c 1 0;beat p c 1 0;");
         order.go(1);
         Due.is("by their numbers", order.parish(0, 3), 2);
@@ -317,7 +323,10 @@ public final class YearsTest {
         Due.is("10000 cells", x.chance(77, 1, 0, 10000), -1);
         Due.is("-1 cells", x.chance(77, 1, 0, -1), -1);
         Due.is("n 0", x.chance(77, 0, 0, 21), -1);
+        Due.is("n 99: the last beating is of year 11", x.chance(77, 99, 0, 11), 10);
         Due.is("n 100", x.chance(77, 100, 0, 21), -1);
+        // Of seed 0: 0 68 88 17 98 27 45 41 22 10
+        Due.is("seed 0", x.chance(0, 1, 0, 21), 3);
         Due.is("seed -1", x.chance(-1, 1, 0, 21), -1);
         Due.is("parish 1", x.chance(77, 1, 1, 21), -1);
         // Of the greatest seed: 29 9 62 18 13 26 80 63 32 34
