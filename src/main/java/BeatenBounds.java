@@ -230,7 +230,7 @@ public final class BeatenBounds {
             return NONE;
         }
         later.become(now);
-        later.quiet = what != 1;
+        later.stonesOnly = what == 0 || what == 3;
         years.pass(later, n, AS_IT_GOES);
         switch (what) {
             case 0:
@@ -249,7 +249,7 @@ public final class BeatenBounds {
             return NONE;
         }
         later.become(now);
-        later.quiet = true;
+        later.stonesOnly = true;
         for (int k = 0; k <= LAST_WHEN; k++) {
             if (later.holds(parish, row, column)) {
                 return k;
@@ -314,32 +314,35 @@ public final class BeatenBounds {
     }
 
     public int rests(int one, int other) {
-        if (!isPair(one, other)) {
-            return NONE;
-        }
-        int found = 0;
-        for (int song = 0; song < 4; song++) {
-            if (isRest(one, other, song / 2, song % 2)) {
-                found++;
-            }
-        }
-        return found;
+        return isPair(one, other) ? Integer.bitCount(restBits(one, other)) : NONE;
     }
 
     public int rest(int one, int other, int k) {
         if (!isPair(one, other) || k < 0) {
             return NONE;
         }
-        int found = 0;
+        int bits = restBits(one, other);
+        int left = k;
         for (int song = 0; song < 4; song++) {
-            if (isRest(one, other, song / 2, song % 2)) {
-                if (found == k) {
+            if ((bits >> song & 1) != 0) {
+                if (left == 0) {
                     return 10 * (song / 2) + song % 2;
                 }
-                found++;
+                left--;
             }
         }
         return NOT_SO;
+    }
+
+    /** Bits in the order of the RESTS: twice the first one's and the second one's. */
+    private int restBits(int one, int other) {
+        int bits = 0;
+        for (int song = 0; song < 4; song++) {
+            if (isRest(one, other, song / 2, song % 2)) {
+                bits |= 1 << song;
+            }
+        }
+        return bits;
     }
 
     private boolean isRest(int one, int other, int first, int second) {
@@ -413,7 +416,7 @@ public final class BeatenBounds {
         long number = seed;
         for (int k = 0; k < 10; k++) {
             later.become(now);
-            later.quiet = true;
+            later.stonesOnly = true;
             later.number = number;
             years.pass(later, n, BY_NUMBERS);
             number = later.number;
@@ -429,7 +432,7 @@ public final class BeatenBounds {
             return NONE;
         }
         later.become(now);
-        later.quiet = true;
+        later.stonesOnly = true;
         if (what == 2) {
             later.unled = i;
         } else if (what == 3) {
@@ -968,6 +971,7 @@ public final class BeatenBounds {
         int parishes;
         int children;
         int beatings;
+        int lastBeating;
         int rain;
         int seed;
         final int[] row;
@@ -984,6 +988,7 @@ public final class BeatenBounds {
 
         Told() {
             size = 20;
+            lastBeating = NONE;
             row = new int[MAX_PARISHES];
             column = new int[MAX_PARISHES];
             parishName = new int[MAX_PARISHES];
@@ -1003,6 +1008,7 @@ public final class BeatenBounds {
             parishes = 0;
             children = 0;
             beatings = 0;
+            lastBeating = NONE;
             rain = 0;
             seed = 0;
             Arrays.fill(cake, 0);
@@ -1015,6 +1021,7 @@ public final class BeatenBounds {
             parishes = other.parishes;
             children = other.children;
             beatings = other.beatings;
+            lastBeating = other.lastBeating;
             rain = other.rain;
             seed = other.seed;
             System.arraycopy(other.row, 0, row, 0, MAX_PARISHES);
@@ -1245,6 +1252,7 @@ public final class BeatenBounds {
             draft.beatSlot[beating] = WAYS * parish + way;
             draft.beatChild[beating] = child;
             draft.beatYear[beating] = year;
+            draft.lastBeating = Math.max(draft.lastBeating, year);
             draft.beatings++;
             return true;
         }
@@ -1321,11 +1329,11 @@ public final class BeatenBounds {
         int quarrel;
         int year;
         long number;
-        // The last three are for lands on which something is tried; QUARREL changes
-        // nothing else, so that a quiet land, which isn't asked for it, spares its laws.
+        // The last three are for lands on which something is tried. Nothing that moves stones hangs on
+        // QUARREL or on years behind the last beating: a land asked for its stones only spares both.
         int unled;
         boolean tireless;
-        boolean quiet;
+        boolean stonesOnly;
 
         Land(Told told) {
             this.told = told;
@@ -1346,7 +1354,7 @@ public final class BeatenBounds {
             number = told.seed;
             unled = NONE;
             tireless = false;
-            quiet = false;
+            stonesOnly = false;
         }
 
         void become(Land other) {
@@ -1359,7 +1367,7 @@ public final class BeatenBounds {
             number = other.number;
             unled = NONE;
             tireless = false;
-            quiet = false;
+            stonesOnly = false;
         }
 
         int top(int parish) {
@@ -1555,13 +1563,17 @@ public final class BeatenBounds {
         }
 
         void passOne(Land land, boolean wet) {
+            if (land.stonesOnly && land.year > told.lastBeating) {
+                land.year++;
+                return;
+            }
             for (int beating = 0; beating < told.beatings; beating++) {
                 int child = told.beatChild[beating];
                 if (told.beatYear[beating] == land.year && child != land.unled) {
                     lead(land, child, told.beatSlot[beating], wet);
                 }
             }
-            if (!land.quiet) {
+            if (!land.stonesOnly) {
                 quarrelAll(land, wet);
             }
             for (int child = 0; child < told.children; child++) {
@@ -1783,14 +1795,16 @@ public final class BeatenBounds {
             }
         }
 
-        int lastYear() {
-            int last = 0;
+        /** The next year that something counts of, NONE behind the last one. */
+        int nextYear(int behind) {
+            int next = NONE;
             for (int k = 0; k < entries; k++) {
-                if (counts[k] && strikes[k] == NONE) {
-                    last = Math.max(last, year[k]);
+                boolean later = counts[k] && strikes[k] == NONE && year[k] > behind;
+                if (later && (next == NONE || year[k] < next)) {
+                    next = year[k];
                 }
             }
-            return last;
+            return next;
         }
 
         boolean agrees(Land land) {
@@ -1830,20 +1844,21 @@ public final class BeatenBounds {
 
         void beginWith(int child, int legs) {
             land.begin();
-            land.quiet = true;
+            land.stonesOnly = true;
             land.legs[child] = legs;
         }
 
         int legsLeft(int child) {
             seen.settle();
-            int last = seen.lastYear();
             int bits = 0;
             for (int k = 0; k < MOST_LEGS; k++) {
                 beginWith(child, k + 1);
                 boolean agrees = true;
-                for (int year = 0; year < last && agrees; year++) {
-                    years.pass(land, 1, AS_IT_GOES);
+                int year = seen.nextYear(0);
+                for (int steps = 0; steps < Seen.MOST && agrees && year != NONE; steps++) {
+                    years.pass(land, year - land.year, AS_IT_GOES);
                     agrees = seen.agrees(land);
+                    year = seen.nextYear(year);
                 }
                 if (agrees) {
                     bits |= 1 << k;

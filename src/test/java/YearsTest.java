@@ -276,6 +276,9 @@ public final class YearsTest {
         nobody.carry(0, 2, 5);
         Due.is("nobody", nobody.laid(0, 2), -2);
         Due.is("area stays", nobody.laid(0, 4), 6);
+        Texts.tell(x, "land 40;parish p 20 20;");
+        Due.is("nobody any more", x.laid(0, 0), -2);
+        Due.is("area of the church", x.laid(0, 4), 1);
         BeatenBounds idle = Texts.of("land 40;parish p 20 20;child a 3 0;child b 3 0;law walk 0;");
         // Led or not, nothing is won: the first by ways, and none is last.
         int[] first = {0, 1, -2, -2, 1};
