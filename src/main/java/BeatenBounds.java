@@ -14,7 +14,7 @@ public final class BeatenBounds {
     private static final int MAX_TAPE = 700;
     private static final int FED_BYTES = 20;
     private static final int MAX_YEARS = 200;
-    private static final int LAST_START = 9800;
+    private static final int LAST_YEAR = 9800;
     private static final int LAST_WHEN = 199;
 
     private static final int WALK = 0;
@@ -214,7 +214,7 @@ public final class BeatenBounds {
     }
 
     public int go(int n) {
-        if (n < 0 || n > MAX_YEARS || now.year > LAST_START) {
+        if (n < 0 || n > MAX_YEARS || n > LAST_YEAR - now.year) {
             return NONE;
         }
         if (n > 0) {

@@ -828,7 +828,7 @@ final class Model {
     }
 
     int go(int n) {
-        if (n < 0 || n > 200 || now.year > 9800) {
+        if (n < 0 || n > 200 || now.year + n > 9800) {
             return NONE;
         }
         if (n > 0) {
