@@ -382,7 +382,7 @@ public final class BeatenBounds {
     }
 
     public int see(int years, int parish, int row, int column, boolean is) {
-        if (years < 1 || years > Seen.LAST_YEAR || !isParish(parish) || !isCell(row, column)) {
+        if (years < 1 || years > Seen.LAST_SEEN_YEAR || !isParish(parish) || !isCell(row, column)) {
             return NONE;
         }
         return seen.addSight(years, parish, row, column, is);
@@ -1718,7 +1718,7 @@ public final class BeatenBounds {
     /** What was seen, and what strikes it. */
     private static final class Seen {
         static final int MOST = 24;
-        static final int LAST_YEAR = 60;
+        static final int LAST_SEEN_YEAR = 60;
 
         // NONE for a sight, else the number of what it strikes.
         final int[] strikes;

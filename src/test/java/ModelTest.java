@@ -146,11 +146,25 @@ public final class ModelTest {
             tell(spoiled(text()));
         }
         tell(text());
+        if (random.nextInt(12) == 0) {
+            age();
+        }
         for (int k = any(20, 120); k > 0; k--) {
             call();
         }
         for (int what = -1; what <= 13; what++) {
             same("count(" + what + ")", bounds.count(what), model.count(what));
+        }
+    }
+
+    /** Years up to about the last one that may be, some of them left for the calls behind. */
+    private void age() {
+        for (int k = any(47, 49); k > 0; k--) {
+            same("go 200", bounds.go(200), model.go(200));
+        }
+        for (int k = any(0, 12); k > 0; k--) {
+            int n = about(any(1, 99));
+            same("go " + n, bounds.go(n), model.go(n));
         }
     }
 
