@@ -239,6 +239,7 @@ public final class LandTest {
         // a: rows 2 .. 9 by y's beating, columns 2 .. 7; b: rows 2 .. 5, columns 5 .. 9
         Due.is("quarl", x.law(1, 1, 0, 9), 1000 + 12);
         Due.is("grow", x.law(2, 1, 77, -77), 7 + 400 + 1000 + 5000);
+        Due.is("quarl, of no child just asked", x.law(1, 1, 0, 9), 1000 + 12);
         Due.is("walk of a parish", x.law(0, 0, 2, 0), Long.MIN_VALUE);
         Due.is("walk of a way", x.law(0, 0, 0, 4), Long.MIN_VALUE);
         Due.is("quarl alike", x.law(1, 0, 0, 0), Long.MIN_VALUE);

@@ -4,6 +4,7 @@ public final class TextTest {
         newObject();
         feeding();
         texts();
+        cutTexts();
         lines();
         tokens();
         tooMuch();
@@ -99,6 +100,29 @@ public final class TextTest {
         Texts.tell(x, again);
         Due.is("legs as told", x.child(0, 0), 3);
         Due.is("year 0", x.count(5), 0);
+    }
+
+    /** A text of the first bytes only: what lies behind them on the tape isn't looked at. */
+    private static void cut(String text, int n, int lines, int fault, int place) {
+        BeatenBounds x = new BeatenBounds();
+        for (int[] feed : Texts.feeds(text)) {
+            x.feed(feed[0], feed[1], feed[2], feed[3], feed[4]);
+        }
+        Due.is("text(" + n + ") of " + text, x.text(n), lines);
+        Due.is("fault(0) of " + n + " of " + text, x.fault(0), fault);
+        Due.is("fault(1) of " + n + " of " + text, x.fault(1), place);
+    }
+
+    private static void cutTexts() {
+        cut("law walk 1<=2;", 11, -1, 1, 11);
+        cut("law walk 1<>2;", 11, -1, 1, 11);
+        cut("law walk 1>=2;", 11, -1, 1, 11);
+        cut("law walk 1>2;;", 13, 1, 0, -1);
+        cut("rain 1000;", 8, -1, 1, 8);
+        cut("rain;", 3, -1, 1, 0);
+        cut("child abcdefg 1 0;", 12, -1, 1, 12);
+        cut("child abcdefg 1 0;", 13, -1, 1, 6);
+        cut("land 5;x", 7, 1, 0, -1);
     }
 
     private static void lines() {
