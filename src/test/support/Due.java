@@ -2,8 +2,18 @@
 final class Due {
     private static int right;
     private static int wrong;
+    private static String about = "";
 
     private Due() {
+    }
+
+    /** What the answers from now on are about. */
+    static void about(String what) {
+        about = "[" + what + "] ";
+    }
+
+    static int answers() {
+        return right + wrong;
     }
 
     static void is(String call, long got, long want) {
@@ -11,12 +21,17 @@ final class Due {
             right++;
         } else {
             wrong++;
-            System.out.println(call + " answered " + got + ", due is " + want);
+            System.out.println(about + call + " answered " + got + ", due is " + want);
         }
     }
 
     static void is(String call, boolean got, boolean want) {
         is(call, got ? 1 : 0, want ? 1 : 0);
+    }
+
+    /** All that can be asked of an object without changing it, at two times. */
+    static void same(String call, String got, String want) {
+        is(call + ": " + got + " as " + want, got.equals(want), true);
     }
 
     /** A text with a fault, on an object of its own. */
