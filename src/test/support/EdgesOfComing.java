@@ -210,9 +210,9 @@ final class EdgesOfComing {
         Due.is("a isn't", led.tried(2, 0, 2), 5 + 1);
         Due.is("b isn't", led.tried(2, 1, 2), 12 * 9 + 1);
         Due.is("a is once more", led.ahead(2, 0, 0), 12 * 13);
-        // Not led, not tired: a grows by how tired one isn't.
-        Due.is("nor tired by it", Texts.of("land 40;parish p 20 20;child a 3 0;child b 5 0;beat p a 1 0;beat p a 1 0;"
-            + "beat p b 2 1;law walk tired+2;").tried(2, 0, 2), 3);
+        // Where both lead the same way, the other one's stone stays.
+        Due.is("the other one is", Texts.of("land 40;parish p 20 20;child a 3 0;child b 5 0;beat p b 1 0;beat p a 1 0;")
+            .tried(2, 0, 1), 6);
         Doc.terms("3 no CAKES,");
         Due.is("none told", led.tried(3, 0, 2), 10 * 13 + 1);
         led.bake(0, 0, 9);

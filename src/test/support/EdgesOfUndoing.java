@@ -1,10 +1,14 @@
 /** The edges of what is undone and kept, and of promises 35 to 37. */
 final class EdgesOfUndoing {
+    private static final String TWO = "land 40;parish p 20 20;parish q 3 3;child c 5 0;child d 9 0;cake p 1 2;";
+
     private EdgesOfUndoing() {
     }
 
     static void run() {
         undoing();
+        mostUndone();
+        undoneInTheYear();
         images();
         undo();
         keep();
@@ -12,9 +16,9 @@ final class EdgesOfUndoing {
     }
 
     private static void undoing() {
-        Doc.terms("Beatings, cakes, stones by call can be undone, the latest first (20 at most), if no YEAR went by since.");
-        BeatenBounds x = Texts.of("land 40;parish p 20 20;parish q 3 3;child c 5 0;child d 9 0;cake p 1 2;");
-        String[] ahead = new String[8];
+        Doc.terms("Beatings, cakes, stones by call can be undone, the latest first");
+        BeatenBounds x = Texts.of(TWO);
+        String[] ahead = new String[6];
         ahead[0] = Whole.ofLand(x);
         x.beat(0, 0, 1);
         ahead[1] = Whole.ofLand(x);
@@ -32,6 +36,11 @@ final class EdgesOfUndoing {
             Due.same("as ahead of it", Whole.ofLand(x), ahead[left]);
         }
         Due.is("none", x.undo(), -1);
+    }
+
+    private static void mostUndone() {
+        Doc.terms("(20 at most),");
+        BeatenBounds x = Texts.of(TWO);
         for (int k = 0; k < 20; k++) {
             x.carry(0, 0, k + 1);
         }
@@ -46,6 +55,25 @@ final class EdgesOfUndoing {
         Due.is("no more", x.undo(), -1);
         Due.is("the first two stay", x.parish(0, 2), 2);
         Due.is("the latest ones don't", x.child(1, 2), 0);
+        Due.is("the latest ones don't", x.cake(1, 1), 0);
+        // Round and round: of 100 the latest 20, then as many again.
+        for (int round = 0; round < 2; round++) {
+            for (int k = 1; k <= 100; k++) {
+                x.carry(1, 1, k % 2 == 0 ? k % 36 : 36);
+            }
+            Due.is("20 of 100", x.count(12), 20);
+            for (int left = 19; left >= 0; left--) {
+                Due.is("undo", x.undo(), left);
+                int k = 80 + left;
+                Due.is("as ahead of it", x.parish(1, 3), k % 2 == 0 ? k % 36 : 36);
+            }
+            Due.is("no more", x.undo(), -1);
+        }
+    }
+
+    private static void undoneInTheYear() {
+        Doc.terms("if no YEAR went by since.");
+        BeatenBounds x = Texts.of(TWO);
         x.carry(0, 0, 9);
         x.go(0);
         Due.is("no year went by", x.count(12), 1);
