@@ -468,5 +468,23 @@ public final class YearsTest {
         Due.is("leaves the image", quarrel.back(), 1);
         Due.is("a text", quarrel.text(0), 0);
         Due.is("takes it", quarrel.back(), -1);
+        outsideImages();
+    }
+
+    /** As NOTES.md reads it: the TAPE, the latest FAULT and what is KNOWN are no part of an IMAGE. */
+    private static void outsideImages() {
+        BeatenBounds x = Texts.of("land 9;parish a 0 0;child c 1 0;");
+        x.see(1, 0, 0, 0, true);
+        x.feed(0, 0, 0, 0, 0);
+        x.keep();
+        x.known(0);
+        x.feed(0, 0, 0, 0, 0);
+        x.back();
+        Due.is("what is known", x.count(11), 0);
+        Due.is("the tape", x.feed(0, 0, 0, 0, 0), 60);
+        x.text(60);
+        x.back();
+        Due.is("the fault", x.fault(0), 1);
+        Due.is("the tape is empty still", x.feed(0, 0, 0, 0, 0), 20);
     }
 }
