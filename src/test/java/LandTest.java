@@ -1,5 +1,3 @@
-import java.util.NoSuchElementException;
-
 /** Promises 6 to 13 and 22 to 27: what is whose, laws, cuts, who touches whom, songs, dry years. */
 public final class LandTest {
     private static final String THREE = "land 10;parish a 2 2;parish b 5 5;parish c 2 7;child x 5 3;child y 30 9;";
@@ -63,27 +61,15 @@ public final class LandTest {
         Due.is("no cake", cakes.cake(0, 3), 0);
     }
 
-    /** 1: IndexOutOfBoundsException, 2: NoSuchElementException. */
-    private static int thrown(BeatenBounds x, int parish, int what) {
-        try {
-            x.parish(parish, what);
-            return 0;
-        } catch (IndexOutOfBoundsException e) {
-            return 1;
-        } catch (NoSuchElementException e) {
-            return 2;
-        }
-    }
-
     private static void wrongOnes() {
         BeatenBounds x = Texts.of(THREE);
-        Due.is("parish 3", thrown(x, 3, 0), 1);
-        Due.is("parish -1", thrown(x, -1, 7), 1);
-        Due.is("parish, neither", thrown(x, 3, 8), 1);
-        Due.is("parish what 8", thrown(x, 2, 8), 2);
-        Due.is("parish what -1", thrown(x, 0, -1), 2);
-        Due.is("parish what 7", thrown(x, 0, 7), 0);
-        Due.is("parish of a new object", thrown(new BeatenBounds(), 0, 0), 1);
+        Due.is("parish 3", Whole.thrown(x, 3, 0), 1);
+        Due.is("parish -1", Whole.thrown(x, -1, 7), 1);
+        Due.is("parish, neither", Whole.thrown(x, 3, 8), 1);
+        Due.is("parish what 8", Whole.thrown(x, 2, 8), 2);
+        Due.is("parish what -1", Whole.thrown(x, 0, -1), 2);
+        Due.is("parish what 7", Whole.thrown(x, 0, 7), 0);
+        Due.is("parish of a new object", Whole.thrown(new BeatenBounds(), 0, 0), 1);
         Due.is("child 2", x.child(2, 0), -1);
         Due.is("child -1", x.child(-1, 0), -1);
         Due.is("child what 3", x.child(0, 3), -1);

@@ -20,6 +20,7 @@ public final class LanguageTest {
         List<String> lines = Files.readAllLines(Path.of("src/main/java/BeatenBounds.java"), StandardCharsets.US_ASCII);
         int start = -1;
         int longest = 0;
+        boolean making = false;
         for (int k = 0; k < lines.size(); k++) {
             String line = lines.get(k).replaceAll("//.*|/\\*\\*.*\\*/", "");
             for (String one : RULED_OUT) {
@@ -29,7 +30,11 @@ public final class LanguageTest {
             Due.is("line " + (k + 1) + " is at most 125 long", lines.get(k).length() <= 125, true);
             if (line.matches(" {4,8}[a-zA-Z].*\\) (throws .*)?\\{") && !line.contains(" class ")) {
                 start = k;
+                // A head of one name without a type ahead of it is a constructor's.
+                making = line.matches(" +(public )?[A-Z]\\w*\\(.*");
             }
+            boolean makes = line.replace("throw new ", "").matches(".*\\bnew\\b.*");
+            Due.is("line " + (k + 1) + ": only constructors make objects", makes && !making, false);
             if (line.matches(" {4}( {4})?\\}") && start >= 0) {
                 longest = Math.max(longest, k - start + 1);
                 start = -1;

@@ -176,12 +176,40 @@ public final class ModelTest {
         int row = about(model.tale.size - 1);
         int column = about(model.tale.size - 1);
         String args = "(p " + p + " q " + q + " c " + c + " w " + w + " cell " + row + " " + column + ")";
-        if (random.nextInt(3) == 0) {
+        if (random.nextInt(15) == 0) {
+            onTape();
+        } else if (random.nextInt(3) == 0) {
             act(p, c, w, args);
         } else if (random.nextBoolean()) {
             askNow(p, q, c, w, row, column, args);
         } else {
             askFurther(p, q, c, row, column, args);
+        }
+    }
+
+    /** In the midst of a run: a text with a fault leaves all as it is, a text without one begins anew. */
+    private void onTape() {
+        int what = about(12);
+        switch (random.nextInt(6)) {
+            case 0:
+                int[] five = {0x20202020, 0x0a0a2020, random.nextBoolean() ? 0x20202020 : random.nextInt(), 0x20202020,
+                    0x20202020};
+                same("feed " + five[2], bounds.feed(five[0], five[1], five[2], five[3], five[4]), model.feed(five));
+                break;
+            case 1:
+                int n = random.nextInt(3) == 0 ? about(model.tape.size()) : random.nextBoolean() ? -1 : 701;
+                same("text " + n, bounds.text(n), model.text(n));
+                break;
+            case 2:
+                // What lies on the tape already stands ahead of it.
+                tell(random.nextInt(3) == 0 ? text() : spoiled(text()));
+                break;
+            case 3:
+                int due = what == 0 ? model.fault : what == 1 ? model.place : Model.NONE;
+                same("fault(" + what + ")", bounds.fault(what), due);
+                break;
+            default:
+                same("count(" + what + ")", bounds.count(what), model.count(what));
         }
     }
 
@@ -326,12 +354,7 @@ public final class ModelTest {
     }
 
     private int parish(int parish, int what) {
-        try {
-            return bounds.parish(parish, what);
-        } catch (IndexOutOfBoundsException e) {
-            return -100;
-        } catch (java.util.NoSuchElementException e) {
-            return -101;
-        }
+        int thrown = Whole.thrown(bounds, parish, what);
+        return thrown == 0 ? bounds.parish(parish, what) : -99 - thrown;
     }
 }

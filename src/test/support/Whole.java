@@ -42,15 +42,15 @@ final class Whole {
         return new int[] {Integer.MIN_VALUE, least - 1, most + 1, Integer.MAX_VALUE};
     }
 
-    /** 1: IndexOutOfBoundsException, 2: NoSuchElementException, 0: none. */
+    /** 1: IndexOutOfBoundsException, 2: NoSuchElementException, 0: none, 3: one of the machine's below them. */
     static int thrown(BeatenBounds x, int parish, int what) {
         try {
             x.parish(parish, what);
             return 0;
         } catch (IndexOutOfBoundsException e) {
-            return 1;
+            return e.getClass() == IndexOutOfBoundsException.class ? 1 : 3;
         } catch (NoSuchElementException e) {
-            return 2;
+            return e.getClass() == NoSuchElementException.class ? 2 : 3;
         }
     }
 }
